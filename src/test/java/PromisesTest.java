@@ -1,4 +1,4 @@
-/** Each promise of the document by itself: ordinary inputs, the edges that it names, wrong inputs. Reckoned by hand. */
+/** Each promise of the document by itself: ordinary inputs, the edges that it names, wrong inputs. Reckoned by hand, but for ask()'s far edges. */
 public final class PromisesTest {
     private static final int BAD = -1, STATE = -2, FULL = -3, NONE = -9;
     private static final int LEAST = Integer.MIN_VALUE, MOST = Integer.MAX_VALUE;
