@@ -1,16 +1,12 @@
 /** Each promise of the document by itself: ordinary inputs, the edges that it names, wrong inputs. Reckoned by hand, but for ask()'s far edges. */
 public final class PromisesTest {
-    private static final int BAD = -1, STATE = -2, FULL = -3, NONE = -9;
-    private static final int LEAST = Integer.MIN_VALUE, MOST = Integer.MAX_VALUE;
+    private static final int BAD = Check.BAD, STATE = Check.STATE, FULL = Check.FULL, NONE = Check.NONE;
+    private static final int LEAST = Check.LEAST, MOST = Check.MOST;
     /** Under 0 .. 10 of cask 3 4 5, lying: all its three slices have a radius of 5. */
     private static final int[] STRAIGHT = {0, 12, 30, 54, 78, 102, 126, 150, 174, 192, 204};
     /** Under 0 .. 10 of cask 3 1 5, lying: its slices have radii of 4, 5, 4. */
     private static final int[] BOWED = {0, 4, 14, 34, 54, 74, 94, 114, 134, 144, 148};
     private static final String TWO = "cask 3 4 5;cask 3 1 5;";
-
-    private static int wrong = 0;
-    private static int checks = 0;
-    private static int promise = 0;
 
     public static void main(String[] args) {
         promise1New();
@@ -38,47 +34,27 @@ public final class PromisesTest {
         promise22Keep();
         promise23Back();
         promise24Count();
-        System.out.println("promises: " + checks + " answers, " + wrong + " wrong");
-        if (wrong != 0) {
-            System.exit(1);
-        }
+        Check.end("promises");
     }
 
     private static void due(String call, int got, int want) {
-        checks++;
-        if (got != want) {
-            wrong++;
-            System.out.println("promise " + promise + ": " + call + " answered " + got + ", due is " + want);
-        }
+        Check.due(call, got, want);
     }
 
     private static void type(CaskGauge x, String text) {
-        for (int i = 0; i < text.length(); i++) {
-            x.type(text.charAt(i));
-        }
+        Check.type(x, text);
     }
 
     private static int tell(CaskGauge x, String text) {
-        x.clear();
-        type(x, text);
-        return x.tells();
+        return Check.tell(x, text);
     }
 
     private static CaskGauge told(String text) {
-        CaskGauge x = new CaskGauge();
-        due("tells() of '" + text + "' is not refused", tell(x, text) >= 0 ? 1 : 0, 1);
-        return x;
+        return Check.told(text);
     }
 
-    /** Wine, spirit and lie of each cask, and how many can be undone, as one number to compare. */
     private static String state(CaskGauge x) {
-        StringBuilder all = new StringBuilder();
-        for (int c = 0; c < x.count(0); c++) {
-            for (int what = 0; what <= 6; what++) {
-                all.append(x.cask(c, what)).append(' ');
-            }
-        }
-        return all.append(x.count(3)).append(' ').append(x.count(4)).append(' ').append(x.count(5)).toString();
+        return Trace.state(x);
     }
 
     private static void same(String call, String before, String after) {
@@ -86,7 +62,7 @@ public final class PromisesTest {
     }
 
     private static void promise1New() {
-        promise = 1;
+        Check.sentence("promise 1");
         CaskGauge x = new CaskGauge();
         for (int what = 0; what <= 5; what++) {
             due("count(" + what + ")", x.count(what), 0);
@@ -102,7 +78,7 @@ public final class PromisesTest {
     }
 
     private static void promise2Type() {
-        promise = 2;
+        Check.sentence("promise 2");
         CaskGauge x = new CaskGauge();
         due("type(0)", x.type(0), 1);
         due("type(255)", x.type(255), 2);
@@ -119,7 +95,7 @@ public final class PromisesTest {
     }
 
     private static void promise3Clear() {
-        promise = 3;
+        Check.sentence("promise 3");
         CaskGauge x = told(TWO);
         due("clear() of none", x.clear(), 0);
         type(x, "cask");
@@ -132,7 +108,7 @@ public final class PromisesTest {
     }
 
     private static void promise4TellsWell() {
-        promise = 4;
+        Check.sentence("promise 4");
         CaskGauge x = new CaskGauge();
         due("tells() of nothing", x.tells(), 0);
         due("count(5)", x.count(5), 1);
@@ -236,7 +212,7 @@ public final class PromisesTest {
     }
 
     private static void promise5Fills() {
-        promise = 5;
+        Check.sentence("promise 5");
         CaskGauge x = told(TWO);
         due("fills(0, 100, 40)", x.fills(0, 100, 40), 100);
         due("fills(0, 3, 0)", x.fills(0, 3, 0), 103);
@@ -263,7 +239,7 @@ public final class PromisesTest {
     }
 
     private static void promise6Draws() {
-        promise = 6;
+        Check.sentence("promise 6");
         CaskGauge x = told(TWO);
         x.fills(0, 100, 40);
         due("draws(0, 33)", x.draws(0, 33), 67);
@@ -292,7 +268,7 @@ public final class PromisesTest {
     }
 
     private static void promise7Pours() {
-        promise = 7;
+        Check.sentence("promise 7");
         CaskGauge x = told("cask 3 4 5;cask 1 5 5;cask 1 1 1;");
         x.fills(0, 100, 40);
         due("pours(0, 1, 33)", x.pours(0, 1, 33), 33);
@@ -321,7 +297,7 @@ public final class PromisesTest {
     }
 
     private static void promise8TurnsOver() {
-        promise = 8;
+        Check.sentence("promise 8");
         CaskGauge x = told(TWO + "stands 1;");
         x.fills(0, 60, 1);
         due("turnsOver(0)", x.turnsOver(0), 0);
@@ -338,7 +314,7 @@ public final class PromisesTest {
     }
 
     private static void promise9Undo() {
-        promise = 9;
+        Check.sentence("promise 9");
         CaskGauge x = new CaskGauge();
         due("undo()", x.undo(), STATE);
         tell(x, TWO);
@@ -382,7 +358,7 @@ public final class PromisesTest {
     }
 
     private static void promise10Cask() {
-        promise = 10;
+        Check.sentence("promise 10");
         CaskGauge x = told(TWO + "stands 1;");
         x.fills(1, 50, 33);
         int[] first = {3, 4, 5, 1, 204, 0, 0, 0, NONE};
@@ -411,7 +387,7 @@ public final class PromisesTest {
     }
 
     private static void promise11Slice() {
-        promise = 11;
+        Check.sentence("promise 11");
         CaskGauge x = told(TWO + "cask 4 2 19;");
         due("slice(0, 0, -1)", x.slice(0, 0, -1), 5);
         due("slice(1, 0, -1)", x.slice(1, 0, -1), 4);
@@ -442,7 +418,7 @@ public final class PromisesTest {
     }
 
     private static void promise12Under() {
-        promise = 12;
+        Check.sentence("promise 12");
         CaskGauge x = told(TWO);
         for (int y = 0; y <= 10; y++) {
             due("under(0, " + y + ")", x.under(0, y), STRAIGHT[y]);
@@ -492,7 +468,7 @@ public final class PromisesTest {
     }
 
     private static void promise13Dip() {
-        promise = 13;
+        Check.sentence("promise 13");
         CaskGauge x = told(TWO);
         for (int y = 1; y <= 10; y++) {
             due("dip(1, " + BOWED[y] + ")", x.dip(1, BOWED[y]), y);
@@ -521,7 +497,7 @@ public final class PromisesTest {
     }
 
     private static void promise14Stick() {
-        promise = 14;
+        Check.sentence("promise 14");
         CaskGauge x = told(TWO + "cask 5 1 1;");
         int[] quarters = {3, 5, 8, 10};
         for (int k = 1; k <= 4; k++) {
@@ -546,7 +522,7 @@ public final class PromisesTest {
     }
 
     private static void promise15Known() {
-        promise = 15;
+        Check.sentence("promise 15");
         CaskGauge x = told(TWO + "cask 2 1 5;cask 5 1 1;");
         due("known(0, 0, 0)", x.known(0, 0, 0), 0);
         due("known(0, 0, 1)", x.known(0, 0, 1), 0);
@@ -574,7 +550,7 @@ public final class PromisesTest {
     }
 
     private static void promise16Shares() {
-        promise = 16;
+        Check.sentence("promise 16");
         CaskGauge x = told(TWO);
         due("shares(0, 2, -1) of nothing", x.shares(0, 2, -1), STATE);
         due("shares(0, 2, 1) of nothing", x.shares(0, 2, 1), BAD);
@@ -609,7 +585,7 @@ public final class PromisesTest {
     }
 
     private static void promise17All() {
-        promise = 17;
+        Check.sentence("promise 17");
         CaskGauge x = told("cask 3 5 5;cask 3 5 5;cask 3 5 5;cask 3 5 5;");
         due("all(0)", x.all(0), NONE);
         due("all(1)", x.all(1), NONE);
@@ -635,7 +611,7 @@ public final class PromisesTest {
     }
 
     private static void promise18Sees() {
-        promise = 18;
+        Check.sentence("promise 18");
         CaskGauge x = new CaskGauge();
         due("sees(-1, 0)", x.sees(-1, 0), BAD);
         due("sees(100000, 0)", x.sees(100000, 0), BAD);
@@ -652,7 +628,7 @@ public final class PromisesTest {
     }
 
     private static void promise19Forget() {
-        promise = 19;
+        Check.sentence("promise 19");
         CaskGauge x = told(TWO);
         due("forget() of nothing", x.forget(), 0);
         x.sees(204, 10);
@@ -665,7 +641,7 @@ public final class PromisesTest {
     }
 
     private static void promise20Which() {
-        promise = 20;
+        Check.sentence("promise 20");
         CaskGauge x = new CaskGauge();
         due("which() without casks", x.which(), 0);
         tell(x, TWO + "cask 5 1 1;stands 1;");
@@ -701,7 +677,7 @@ public final class PromisesTest {
     }
 
     private static void promise21Ask() {
-        promise = 21;
+        Check.sentence("promise 21");
         CaskGauge x = new CaskGauge();
         due("ask() without casks", x.ask(), NONE);
         tell(x, "cask 3 4 5;");
@@ -744,7 +720,7 @@ public final class PromisesTest {
     }
 
     private static void promise22Keep() {
-        promise = 22;
+        Check.sentence("promise 22");
         CaskGauge x = new CaskGauge();
         due("keep(0) of nothing", x.keep(0), 0);
         due("back(0)", x.back(0), 0);
@@ -770,7 +746,7 @@ public final class PromisesTest {
     }
 
     private static void promise23Back() {
-        promise = 23;
+        Check.sentence("promise 23");
         CaskGauge x = told(TWO + "stands 1;");
         x.fills(0, 9, 4);
         String before = state(x);
@@ -800,7 +776,7 @@ public final class PromisesTest {
     }
 
     private static void promise24Count() {
-        promise = 24;
+        Check.sentence("promise 24");
         CaskGauge x = told(TWO);
         x.fills(0, 9, 4);
         x.fills(1, 20, 7);
