@@ -283,22 +283,40 @@ public final class RefusalsTest {
 
     private static void withoutCasks() {
         Check.sentence("CASKS 0, 1, .. (none at first); there is no such thing: BAD");
+        withoutCasks(NEW);
+        Check.sentence("ITEMS (none, too): there are no CASKS behind an empty text, whatever was there");
+        withoutCasks(x -> {
+            RICH.accept(x);
+            Check.tell(x, "");
+        });
+        fewerCasks();
+    }
+
+    private static void withoutCasks(Consumer<CaskGauge> past) {
         for (int c = 0; c <= 4; c++) {
-            refused(NEW, BAD, "fills", c, 1, 0);
-            refused(NEW, BAD, "draws", c, 1);
-            refused(NEW, BAD, "pours", c, (c + 1) % 4, 1);
-            refused(NEW, BAD, "turnsOver", c);
-            refused(NEW, BAD, "slice", c, 0, 0);
-            refused(NEW, BAD, "slice", c, 0, -1);
-            refused(NEW, BAD, "under", c, 0);
-            refused(NEW, BAD, "dip", c, 0);
-            refused(NEW, BAD, "stick", c, 2, 1);
-            refused(NEW, BAD, "known", c, 0, 0);
-            refused(NEW, BAD, "shares", c, 2, -1);
+            refused(past, BAD, "fills", c, 1, 0);
+            refused(past, BAD, "draws", c, 1);
+            refused(past, BAD, "pours", c, (c + 1) % 4, 1);
+            refused(past, BAD, "turnsOver", c);
+            refused(past, BAD, "slice", c, 0, 0);
+            refused(past, BAD, "slice", c, 0, -1);
+            refused(past, BAD, "under", c, 0);
+            refused(past, BAD, "dip", c, 0);
+            refused(past, BAD, "stick", c, 2, 1);
+            refused(past, BAD, "known", c, 0, 0);
+            refused(past, BAD, "shares", c, 2, -1);
             for (int what = 0; what <= 8; what++) {
-                refused(NEW, BAD, "cask", c, what);
+                refused(past, BAD, "cask", c, what);
             }
         }
+        refused(past, NONE, "all", 0);
+        refused(past, NONE, "all", 1);
+        refused(past, NONE, "ask");
+        refused(past, 0, "which");
+        Check.due(Trace.after(past), 0, "keep", 0);
+    }
+
+    private static void fewerCasks() {
         Check.sentence("a CASK that was there ahead of another text is no such thing");
         Consumer<CaskGauge> fewer = x -> {
             RICH.accept(x);
