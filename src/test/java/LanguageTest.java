@@ -41,7 +41,7 @@ import javax.tools.StandardJavaFileManager;
 import javax.tools.ToolProvider;
 
 /**
- * What the compiler's own tree of the program shows of LANGUAGE.md's rules. It asks for less than these allow: no throw, no
+ * What the compiler's own tree of the program shows of LANGUAGE.md's rules. It allows less than these do: no throw, no
  * try, no recursion, no cast among objects, objects made in constructors alone, for the program needs none of it. That a
  * loop's bound is ever reached, and an index tested, is for a reader.
  */
